@@ -330,7 +330,6 @@ public final class SungWords {
             }
             firstOf[phrases] = notes;
             phrases++;
-            firstOf[phrases] = notes;
         }
 
         void addNote(int letterNumber, int length, int placeInSlur, boolean isBehindRest) {
@@ -977,7 +976,7 @@ public final class SungWords {
             if (!verse.laid) {
                 return;
             }
-            for (int i = 0; i < verse.begun[note]; i++) {
+            for (int i = 0; i < verse.begun[note] && verse.hasSyllable(next[v]); i++) {
                 int from = i == 0 ? columns[note] : ends[v] + 1;
                 ends[v] = from + verse.size[next[v]];
                 next[v]++;

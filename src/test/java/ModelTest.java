@@ -8,9 +8,13 @@ public final class ModelTest {
     private static final Random RANDOM = new Random(20261116);
 
     public static void main(String[] args) {
-        for (int i = 0; i < 4000; i++) {
-            readTune(spoiled(longTune(), "abcgmr0123456789(),; \nXhz-"));
-            readVerse(spoiled(longVerse(), "abcz'-/ \nA1_"));
+        for (int i = 0; i < 1300; i++) {
+            // Three texts each to one object: what an earlier one left must not show in a later one.
+            SungWords x = new SungWords();
+            for (int j = 0; j < 3; j++) {
+                readTune(x, spoiled(longTune(), "abcgmr0123456789(),; \nXhz-"));
+                readVerse(x, spoiled(longVerse(), "abcz'-/ \nA1_"));
+            }
         }
         for (int i = 0; i < 1500; i++) {
             layAndSpace();
@@ -119,8 +123,7 @@ public final class ModelTest {
 
     // ---- reading
 
-    private static void readTune(String text) {
-        SungWords x = new SungWords();
+    private static void readTune(SungWords x, String text) {
         Model.Fault fault = Model.faultOfTune(text);
         int got = Checks.tune(x, text);
         Checks.same("fault of <" + text + ">", x.fault(), fault == null ? 0 : fault.kind());
@@ -139,8 +142,7 @@ public final class ModelTest {
         Checks.same("phrases of <" + text + ">", x.count(1), notes.get(notes.size() - 1).phrase() + 1);
     }
 
-    private static void readVerse(String text) {
-        SungWords x = new SungWords();
+    private static void readVerse(SungWords x, String text) {
         Model.Fault fault = Model.faultOfVerse(text);
         int got = Checks.verse(x, 0, text);
         Checks.same("fault of <" + text + ">", x.fault(), fault == null ? 0 : fault.kind());

@@ -12,6 +12,7 @@ public final class TuneTest {
         restsAndSlurs();
         faultsLeaveTheTune();
         newTuneDropsPinsAndLayings();
+        oneBehindAnother();
         transposing();
         Checks.finish();
     }
@@ -43,6 +44,10 @@ public final class TuneTest {
         fault("m4;c4 dd4", 6, 1);
         fault("m4;c4 d4e", 6, 1);
         fault("m4;c4 d4X", 6, 1);
+        fault("m4;c4 d4A", 6, 1);
+        fault("m4;c4 d4Z", 6, 1);
+        fault("m4;c4 d4@", 8, 1);
+        fault("m4;c4 d4[", 8, 1);
         fault("m4;C4", 3, 1);
         fault("m4;r", 3, 1);
         fault("m4;c4 r123", 6, 1);
@@ -243,6 +248,22 @@ public final class TuneTest {
         Checks.same("pin is gone", x.syllable(0, 1, 4), -1);
         Checks.same("verses stay", x.count(3), 2);
         Checks.same("OUT stays", Checks.out(x), "a  b");
+    }
+
+    /** Nothing of an earlier text, good or faulty, is left for a later one. */
+    private static void oneBehindAnother() {
+        SungWords x = new SungWords();
+        for (String text : new String[] {"m6;c4 d4 (e4", "m4;c4 r4 x", "m3;c4,d4,e4 r8", "m2;(c4 d4),r4", "m5;c4;"}) {
+            Checks.tune(x, text);
+            Checks.tune(x, text);
+            Checks.same("a tune behind <" + text + ">", Checks.tune(x, "m4;a4 b4,c4"), 3);
+            Checks.same("phrases", x.count(1), 2);
+            Checks.same("beats", x.count(2), 4);
+            Checks.same("sum", x.count(7), 12);
+            Checks.same("start", x.note(2, 1), 8);
+            Checks.same("slur", x.note(0, 4), -1);
+            Checks.same("rest", x.note(0, 6), 0);
+        }
     }
 
     private static void transposing() {

@@ -7,6 +7,7 @@ public final class VerseTest {
         syllables();
         faultsLeaveTheVerse();
         newVerseDropsItsOwnAlone();
+        oneBehindAnother();
         wrongNumbers();
         Checks.finish();
     }
@@ -151,6 +152,24 @@ public final class VerseTest {
         Checks.noSuchElement("what is left of the longer", () -> x.syllable(0, 1, 0));
         Checks.same("a verse in each place", Checks.verse(x, 2, "b") + Checks.verse(x, 3, "c d"), 3);
         Checks.same("verses with syllables", x.count(3), 4);
+    }
+
+    /** Nothing of an earlier text, good or faulty, is left for a later one. */
+    private static void oneBehindAnother() {
+        SungWords x = Checks.with("m4;c16 d16");
+        for (String text : new String[] {"a-b c/'", "'abcdefghij-k l/m/n", "a b c 1", "abcdefghij ".repeat(36)}) {
+            Checks.verse(x, 0, text);
+            Checks.verse(x, 0, text);
+            Checks.same("a verse behind <" + text + ">", Checks.verse(x, 0, "'no 'more"), 2);
+            Checks.same("word", x.syllable(0, 1, 3), 1);
+            Checks.same("line", x.syllable(0, 1, 2), 0);
+            Checks.same("not laid", x.lies(0, 0), -1);
+            Checks.same("lay", x.lay(0), 0);
+            Checks.same("row", Checks.row(x, 0), "no more");
+            Checks.same("the same again is not laid", Checks.verse(x, 0, "'no 'more") + x.lies(0, 0), 1);
+            Checks.same("nor is the one behind it", Checks.verse(x, 0, "'no 'more") + x.lies(0, 0), 1);
+            x.lay(0);
+        }
     }
 
     private static void wrongNumbers() {
