@@ -147,6 +147,13 @@ public final class TuneTest {
         fault(to299 + "(", 300, 1);
         fault(to299 + " x", 300, 1);
         fault("x" + to299 + to299.substring(0, 100), 0, 1);
+        fault("m4;c4 " + "a".repeat(434), 6, 1);
+        fault("m4;c4" + " ".repeat(434) + "a", 300, 1);
+        SungWords x = new SungWords();
+        Checks.feed(x, "m4;c12");
+        x.end(5);
+        Checks.same("a token cut by end", x.tune(), 1);
+        Checks.same("its length", x.note(0, 2), 1);
     }
 
     private static void leastFaultOfAToken() {
@@ -238,14 +245,18 @@ public final class TuneTest {
 
     private static void newTuneDropsPinsAndLayings() {
         SungWords x = Checks.with("m4;c4 d4", "a b", "c d");
+        x.pin(0, 0, 0);
         x.pin(0, 1, 1);
+        x.pin(1, 0, 0);
         x.lay(0);
         x.lay(1);
         x.row(0);
         Checks.same("laid", x.count(4), 2);
         Checks.same("tune again", Checks.tune(x, "m4;c4 d4"), 2);
         Checks.same("laid no more", x.count(4), 0);
+        Checks.same("pin is gone", x.syllable(0, 0, 4), -1);
         Checks.same("pin is gone", x.syllable(0, 1, 4), -1);
+        Checks.same("the other verse's too", x.syllable(1, 0, 4), -1);
         Checks.same("verses stay", x.count(3), 2);
         Checks.same("OUT stays", Checks.out(x), "a  b");
     }
@@ -284,6 +295,12 @@ public final class TuneTest {
         y.transpose(-2);
         y.transpose(1);
         Checks.same("g by 1 is a", y.note(1, 0), 0);
+        SungWords most = Checks.with("m4;" + "g1 ".repeat(60), "a ".repeat(80));
+        Checks.same("transpose 60", most.transpose(1), 60);
+        Checks.same("the last letter", most.note(59, 0), 0);
+        most.pin(0, 79, 59);
+        Checks.same("a tune under 80 syllables", Checks.tune(most, "m4;c4"), 1);
+        Checks.same("the last pin is gone", most.syllable(0, 79, 4), -1);
         Checks.same("transpose without a tune", new SungWords().transpose(5), 0);
     }
 }
