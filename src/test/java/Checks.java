@@ -1,3 +1,6 @@
+import java.io.IOException;
+import java.nio.file.Files;
+import java.nio.file.Path;
 import java.util.NoSuchElementException;
 
 /** What the tests share: counting right and wrong answers, and feeding texts. */
@@ -8,6 +11,7 @@ final class Checks {
 
     private static int right = 0;
     private static int wrong = 0;
+    private static String document = null;
 
     private Checks() {
     }
@@ -32,6 +36,26 @@ final class Checks {
             wrong++;
             System.out.println(what + " answered <" + got + ">, due is <" + due + ">");
         }
+    }
+
+    /** Names the sentence that the checks below it are for, which must stand in the document just so. */
+    static void sentence(String words) {
+        if (document == null) {
+            document = oneBlank(readDocument());
+        }
+        same("the document has <" + words + ">", document.contains(oneBlank(words)), true);
+    }
+
+    private static String readDocument() {
+        try {
+            return Files.readString(Path.of("../shared/DOC.md"));
+        } catch (IOException e) {
+            return "no document: " + e;
+        }
+    }
+
+    private static String oneBlank(String text) {
+        return text.replaceAll("\\s+", " ");
     }
 
     static void outOfBounds(String what, Call call) {
@@ -80,6 +104,37 @@ final class Checks {
         return x.verse(v);
     }
 
+    static void tuneFault(String text, int place, int kind) {
+        SungWords x = new SungWords();
+        same("tune <" + text + ">", tune(x, text), -1 - place);
+        same("fault of <" + text + ">", x.fault(), kind);
+        same("notes behind <" + text + ">", x.count(0), 0);
+        same("sum behind <" + text + ">", x.count(7), 0);
+    }
+
+    static SungWords goodTune(String text, int notes) {
+        SungWords x = new SungWords();
+        same("tune <" + text + ">", tune(x, text), notes);
+        same("fault of <" + text + ">", x.fault(), 0);
+        same("notes of <" + text + ">", x.count(0), notes);
+        return x;
+    }
+
+    static void verseFault(String text, int place, int kind) {
+        SungWords x = new SungWords();
+        same("verse <" + text + ">", verse(x, 2, text), -1 - place);
+        same("fault of <" + text + ">", x.fault(), kind);
+        same("verses behind <" + text + ">", x.count(3), 0);
+    }
+
+    static SungWords goodVerse(String text, int syllables) {
+        SungWords x = new SungWords();
+        same("verse <" + text + ">", verse(x, 2, text), syllables);
+        same("fault of <" + text + ">", x.fault(), 0);
+        same("verses behind <" + text + ">", x.count(3), 1);
+        return x;
+    }
+
     static SungWords with(String tune, String... verses) {
         SungWords x = new SungWords();
         same("notes of " + tune, tune(x, tune) > 0, true);
@@ -91,7 +146,8 @@ final class Checks {
 
     static String begins(SungWords x, int v) {
         StringBuilder all = new StringBuilder();
-        for (int n = 0; n < x.count(0); n++) {
+        int notes = x.count(0);
+        for (int n = 0; n < notes; n++) {
             all.append(x.begins(v, n));
         }
         return all.toString();
@@ -107,7 +163,8 @@ final class Checks {
 
     static String columns(SungWords x) {
         StringBuilder all = new StringBuilder();
-        for (int n = 0; n < x.count(0); n++) {
+        int notes = x.count(0);
+        for (int n = 0; n < notes; n++) {
             all.append(n == 0 ? "" : " ").append(x.column(n));
         }
         return all.toString();
@@ -115,7 +172,8 @@ final class Checks {
 
     static String out(SungWords x) {
         StringBuilder all = new StringBuilder();
-        for (int k = 0; k < x.count(6); k++) {
+        int bytes = x.count(6);
+        for (int k = 0; k < bytes; k++) {
             all.append((char) x.octet(k));
         }
         return all.toString();

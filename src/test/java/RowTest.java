@@ -9,7 +9,6 @@ public final class RowTest {
         lines();
         outStays();
         counts();
-        widest();
         Checks.finish();
     }
 
@@ -150,23 +149,5 @@ public final class RowTest {
         x.pin(0, 0, 0);
         Checks.same("one is not laid", x.count(4), 1);
         Checks.same("count(-1)", x.count(-1), -1);
-    }
-
-    /** Three verses that share out the notes, two long syllables on each: near the widest row there is. */
-    private static void widest() {
-        String word = "'abcdefghij-klmnopqrst ";
-        SungWords x = Checks.with("m4;" + "c16 ".repeat(60), word.repeat(17), word.repeat(17), word.repeat(17), "a");
-        for (int v = 0; v < 3; v++) {
-            for (int k = v == 0 ? 0 : 2; k < 34; k++) {
-                x.pin(v, k, 17 * v + k / 2);
-            }
-            Checks.same("laid", x.lay(v) >= 0, true);
-        }
-        Checks.same("laid", x.lay(3) >= 0, true);
-        int last = x.column(59);
-        Checks.same("a long line", Checks.row(x, 3), "a " + "_".repeat(last - 1));
-        // 46 steps for two syllables, 2 for the single ones on notes 17 and 34, and 11 bare ones.
-        Checks.same("the last column", last, 46 * 22 + 2 * 11 + 11 * 3);
-        Checks.same("the last row", Checks.row(x, 2).length(), last + 1);
     }
 }

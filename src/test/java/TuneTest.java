@@ -17,138 +17,123 @@ public final class TuneTest {
         Checks.finish();
     }
 
-    private static void fault(String text, int place, int kind) {
-        SungWords x = new SungWords();
-        Checks.same("tune <" + text + ">", Checks.tune(x, text), -1 - place);
-        Checks.same("fault of <" + text + ">", x.fault(), kind);
-        Checks.same("notes behind <" + text + ">", x.count(0), 0);
-        Checks.same("sum behind <" + text + ">", x.count(7), 0);
-    }
-
-    private static void good(String text, int notes) {
-        SungWords x = new SungWords();
-        Checks.same("tune <" + text + ">", Checks.tune(x, text), notes);
-        Checks.same("fault of <" + text + ">", x.fault(), 0);
-        Checks.same("notes of <" + text + ">", x.count(0), notes);
-    }
-
     private static void faultsOfTokens() {
-        fault("m;c4", 0, 1);
-        fault("m44;c4", 0, 1);
-        fault("4m;c4", 0, 1);
-        fault("m4;c", 3, 1);
-        fault("m4;c444", 3, 1);
-        fault("m4;4", 3, 1);
-        fault("m4;h4", 3, 1);
-        fault("m4;c4d4", 3, 1);
-        fault("m4;c4 dd4", 6, 1);
-        fault("m4;c4 d4e", 6, 1);
-        fault("m4;c4 d4X", 6, 1);
-        fault("m4;c4 d4A", 6, 1);
-        fault("m4;c4 d4Z", 6, 1);
-        fault("m4;c4 d4@", 8, 1);
-        fault("m4;c4 d4[", 8, 1);
-        fault("m4;C4", 3, 1);
-        fault("m4;r", 3, 1);
-        fault("m4;c4 r123", 6, 1);
-        fault("m4;c4\td4", 5, 1);
-        fault("m4;c4\r", 5, 1);
-        fault("m4;c4!", 5, 1);
-        fault("m4;c4" + (char) 228, 5, 1);
-        fault("m4;c4-", 5, 1);
-        fault("m4;c 4", 3, 1);
-        good("\n m4 ;\nc4\n,d4 ", 2);
-        good("m4;(c4 d4)e4(f4 g4)r4,a4", 6);
-        good("m4;c04 d4", 2);
+        Checks.tuneFault("m;c4", 0, 1);
+        Checks.tuneFault("m44;c4", 0, 1);
+        Checks.tuneFault("4m;c4", 0, 1);
+        Checks.tuneFault("m4;c", 3, 1);
+        Checks.tuneFault("m4;c444", 3, 1);
+        Checks.tuneFault("m4;4", 3, 1);
+        Checks.tuneFault("m4;h4", 3, 1);
+        Checks.tuneFault("m4;c4d4", 3, 1);
+        Checks.tuneFault("m4;c4 dd4", 6, 1);
+        Checks.tuneFault("m4;c4 d4e", 6, 1);
+        Checks.tuneFault("m4;c4 d4X", 6, 1);
+        Checks.tuneFault("m4;c4 d4A", 6, 1);
+        Checks.tuneFault("m4;c4 d4Z", 6, 1);
+        Checks.tuneFault("m4;c4 d4@", 8, 1);
+        Checks.tuneFault("m4;c4 d4[", 8, 1);
+        Checks.tuneFault("m4;C4", 3, 1);
+        Checks.tuneFault("m4;r", 3, 1);
+        Checks.tuneFault("m4;c4 r123", 6, 1);
+        Checks.tuneFault("m4;c4\td4", 5, 1);
+        Checks.tuneFault("m4;c4\r", 5, 1);
+        Checks.tuneFault("m4;c4!", 5, 1);
+        Checks.tuneFault("m4;c4" + (char) 228, 5, 1);
+        Checks.tuneFault("m4;c4-", 5, 1);
+        Checks.tuneFault("m4;c 4", 3, 1);
+        Checks.goodTune("\n m4 ;\nc4\n,d4 ", 2);
+        Checks.goodTune("m4;(c4 d4)e4(f4 g4)r4,a4", 6);
+        Checks.goodTune("m4;c04 d4", 2);
     }
 
     private static void faultsOfGrammar() {
-        fault("", 0, 1);
-        fault("   ", 3, 1);
-        fault("m4", 2, 1);
-        fault("m4 ", 3, 1);
-        fault("m4;", 3, 1);
-        fault("m4; ", 4, 1);
-        fault("c4", 0, 1);
-        fault(";c4", 0, 1);
-        fault("m4 c4", 3, 1);
-        fault("m4;m4", 3, 1);
-        fault("m4;c4;", 5, 1);
-        fault("m4;,c4", 3, 1);
-        fault("m4;c4,", 6, 1);
-        fault("m4;c4, \n", 8, 1);
-        fault("m4;c4,,d4", 6, 1);
-        fault("m4;r4,c4", 5, 1);
-        fault("m4;r4 r4", 8, 1);
-        fault("m4;c4,r4", 8, 1);
-        fault("m4;c4,r4,c4", 8, 1);
-        fault("m4;()", 4, 1);
-        fault("m4;(c4)", 6, 1);
-        fault("m4;(c4", 6, 1);
-        fault("m4;(c4 d4", 9, 1);
-        fault("m4;(c4 d4,e4)", 9, 1);
-        fault("m4;(c4 r4 d4)", 7, 1);
-        fault("m4;(r4 c4 d4)", 4, 1);
-        fault("m4;((c4 d4))", 4, 1);
-        fault("m4;(c4 d4))", 10, 1);
-        fault("m4;c4)", 5, 1);
-        fault("m4;(c4 d4;", 9, 1);
-        fault("m4;c4 (", 7, 1);
-        good("m4;r4 c4 r4 r4,(d4 e4) r4", 3);
+        Checks.tuneFault("", 0, 1);
+        Checks.tuneFault("   ", 3, 1);
+        Checks.tuneFault("m4", 2, 1);
+        Checks.tuneFault("m4 ", 3, 1);
+        Checks.tuneFault("m4;", 3, 1);
+        Checks.tuneFault("m4; ", 4, 1);
+        Checks.tuneFault("c4", 0, 1);
+        Checks.tuneFault(";c4", 0, 1);
+        Checks.tuneFault("m4 c4", 3, 1);
+        Checks.tuneFault("m4;m4", 3, 1);
+        Checks.tuneFault("m4;c4;", 5, 1);
+        Checks.tuneFault("m4;,c4", 3, 1);
+        Checks.tuneFault("m4;c4,", 6, 1);
+        Checks.tuneFault("m4;c4, \n", 8, 1);
+        Checks.tuneFault("m4;c4,,d4", 6, 1);
+        Checks.tuneFault("m4;r4,c4", 5, 1);
+        Checks.tuneFault("m4;r4 r4", 8, 1);
+        Checks.tuneFault("m4;c4,r4", 8, 1);
+        Checks.tuneFault("m4;c4,r4,c4", 8, 1);
+        Checks.tuneFault("m4;()", 4, 1);
+        Checks.tuneFault("m4;(c4)", 6, 1);
+        Checks.tuneFault("m4;(c4", 6, 1);
+        Checks.tuneFault("m4;(c4 d4", 9, 1);
+        Checks.tuneFault("m4;(c4 d4,e4)", 9, 1);
+        Checks.tuneFault("m4;(c4 r4 d4)", 7, 1);
+        Checks.tuneFault("m4;(r4 c4 d4)", 4, 1);
+        Checks.tuneFault("m4;((c4 d4))", 4, 1);
+        Checks.tuneFault("m4;(c4 d4))", 10, 1);
+        Checks.tuneFault("m4;c4)", 5, 1);
+        Checks.tuneFault("m4;(c4 d4;", 9, 1);
+        Checks.tuneFault("m4;c4 (", 7, 1);
+        Checks.goodTune("m4;r4 c4 r4 r4,(d4 e4) r4", 3);
     }
 
     private static void faultsOfNumbers() {
-        fault("m0;c4", 0, 2);
-        fault("m1;c4", 0, 2);
-        fault("m7;c4", 0, 2);
-        fault(" m9;c4", 1, 2);
-        good("m2;c4", 1);
-        good("m6;c4", 1);
-        fault("m4;c0", 3, 2);
-        fault("m4;c00", 3, 2);
-        fault("m4;c33", 3, 2);
-        fault("m4;c99 d0", 3, 2);
-        fault("m4;c4 r0", 6, 2);
-        fault("m4;c4 r33", 6, 2);
-        fault("m4;(c4 d40)", 7, 2);
-        good("m4;c1 c32 r1 r32", 2);
+        Checks.tuneFault("m0;c4", 0, 2);
+        Checks.tuneFault("m1;c4", 0, 2);
+        Checks.tuneFault("m7;c4", 0, 2);
+        Checks.tuneFault(" m9;c4", 1, 2);
+        Checks.goodTune("m2;c4", 1);
+        Checks.goodTune("m6;c4", 1);
+        Checks.tuneFault("m4;c0", 3, 2);
+        Checks.tuneFault("m4;c00", 3, 2);
+        Checks.tuneFault("m4;c33", 3, 2);
+        Checks.tuneFault("m4;c99 d0", 3, 2);
+        Checks.tuneFault("m4;c4 r0", 6, 2);
+        Checks.tuneFault("m4;c4 r33", 6, 2);
+        Checks.tuneFault("m4;(c4 d40)", 7, 2);
+        Checks.goodTune("m4;c1 c32 r1 r32", 2);
     }
 
     private static void faultsOfCounts() {
         String sixty = "m4;" + "c1 ".repeat(60);
-        good(sixty, 60);
-        good(sixty + "r4", 60);
-        fault(sixty + "d1", 183, 3);
-        fault(sixty + "d1 x", 183, 3);
-        fault(sixty + "(d1 d1)", 184, 3);
-        fault(sixty + ",c1", 184, 3);
+        Checks.goodTune(sixty, 60);
+        Checks.goodTune(sixty + "r4", 60);
+        Checks.tuneFault(sixty + "d1", 183, 3);
+        Checks.tuneFault(sixty + "d1 x", 183, 3);
+        Checks.tuneFault(sixty + "(d1 d1)", 184, 3);
+        Checks.tuneFault(sixty + ",c1", 184, 3);
         String twelve = "m4;c1" + ",c1".repeat(11);
-        good(twelve, 12);
-        fault(twelve + ",c1", 38, 3);
-        fault(twelve + " , c1", 39, 3);
-        fault(twelve + ",", 38, 3);
+        Checks.goodTune(twelve, 12);
+        Checks.tuneFault(twelve + ",c1", 38, 3);
+        Checks.tuneFault(twelve + " , c1", 39, 3);
+        Checks.tuneFault(twelve + ",", 38, 3);
     }
 
     private static void faultsOfLength() {
         String blanks = " ".repeat(295);
-        good("m4;c4" + blanks, 1);
-        fault("m4;c4" + blanks + " ", 300, 1);
-        fault("m4;c4" + blanks + "x", 300, 1);
-        fault("m4;" + " ".repeat(298), 300, 1);
+        Checks.goodTune("m4;c4" + blanks, 1);
+        Checks.tuneFault("m4;c4" + blanks + " ", 300, 1);
+        Checks.tuneFault("m4;c4" + blanks + "x", 300, 1);
+        Checks.tuneFault("m4;" + " ".repeat(298), 300, 1);
         String to299 = "m4;c4" + " ".repeat(294);
-        good(to299 + " ", 1);
-        fault(to299 + ",d4", 300, 1);
-        fault(to299 + "d4", 300, 1);
-        fault(to299 + "d0", 299, 2);
-        fault(to299 + "d33", 299, 2);
-        fault(to299 + "d333", 299, 1);
-        fault(to299 + "d", 299, 1);
-        fault(to299 + ";", 299, 1);
-        fault(to299 + "(", 300, 1);
-        fault(to299 + " x", 300, 1);
-        fault("x" + to299 + to299.substring(0, 100), 0, 1);
-        fault("m4;c4 " + "a".repeat(434), 6, 1);
-        fault("m4;c4" + " ".repeat(434) + "a", 300, 1);
+        Checks.goodTune(to299 + " ", 1);
+        Checks.tuneFault(to299 + ",d4", 300, 1);
+        Checks.tuneFault(to299 + "d4", 300, 1);
+        Checks.tuneFault(to299 + "d0", 299, 2);
+        Checks.tuneFault(to299 + "d33", 299, 2);
+        Checks.tuneFault(to299 + "d333", 299, 1);
+        Checks.tuneFault(to299 + "d", 299, 1);
+        Checks.tuneFault(to299 + ";", 299, 1);
+        Checks.tuneFault(to299 + "(", 300, 1);
+        Checks.tuneFault(to299 + " x", 300, 1);
+        Checks.tuneFault("x" + to299 + to299.substring(0, 100), 0, 1);
+        Checks.tuneFault("m4;c4 " + "a".repeat(434), 6, 1);
+        Checks.tuneFault("m4;c4" + " ".repeat(434) + "a", 300, 1);
         SungWords x = new SungWords();
         Checks.feed(x, "m4;c12");
         x.end(5);
@@ -157,13 +142,13 @@ public final class TuneTest {
     }
 
     private static void leastFaultOfAToken() {
-        fault("m4;m9", 3, 1);
-        fault("c99", 0, 1);
-        fault("m4;(r99", 4, 1);
-        fault("m4;" + "c1 ".repeat(60) + "c33", 183, 2);
-        fault("m4;" + "c1 ".repeat(60) + "c333", 183, 1);
-        fault("m4;c1" + ",c1".repeat(11) + ",,", 38, 3);
-        fault("m4;c1" + ",c1".repeat(10) + ",r1,c1", 38, 1);
+        Checks.tuneFault("m4;m9", 3, 1);
+        Checks.tuneFault("c99", 0, 1);
+        Checks.tuneFault("m4;(r99", 4, 1);
+        Checks.tuneFault("m4;" + "c1 ".repeat(60) + "c33", 183, 2);
+        Checks.tuneFault("m4;" + "c1 ".repeat(60) + "c333", 183, 1);
+        Checks.tuneFault("m4;c1" + ",c1".repeat(11) + ",,", 38, 3);
+        Checks.tuneFault("m4;c1" + ",c1".repeat(10) + ",r1,c1", 38, 1);
     }
 
     private static void notes() {

@@ -12,98 +12,83 @@ public final class VerseTest {
         Checks.finish();
     }
 
-    private static void fault(String text, int place, int kind) {
-        SungWords x = new SungWords();
-        Checks.same("verse <" + text + ">", Checks.verse(x, 2, text), -1 - place);
-        Checks.same("fault of <" + text + ">", x.fault(), kind);
-        Checks.same("verses behind <" + text + ">", x.count(3), 0);
-    }
-
-    private static SungWords good(String text, int syllables) {
-        SungWords x = new SungWords();
-        Checks.same("verse <" + text + ">", Checks.verse(x, 2, text), syllables);
-        Checks.same("fault of <" + text + ">", x.fault(), 0);
-        Checks.same("verses behind <" + text + ">", x.count(3), 1);
-        return x;
-    }
-
     private static void faultsOfBytes() {
-        fault("", 0, 1);
-        fault(" \n", 2, 1);
-        fault("A", 0, 1);
-        fault("a1", 1, 1);
-        fault("a\tb", 1, 1);
-        fault("a" + (char) 228, 1, 1);
-        fault("a_b", 1, 1);
-        fault("'", 1, 1);
-        fault("' a", 1, 1);
-        fault("''a", 1, 1);
-        fault("'-a", 1, 1);
-        fault("'/a", 1, 1);
-        fault("a'b", 1, 1);
-        fault("a'", 1, 1);
-        fault("-a", 0, 1);
-        fault("a-", 2, 1);
-        fault("a- b", 2, 1);
-        fault("a -b", 2, 1);
-        fault("a--b", 2, 1);
-        fault("a-/b", 2, 1);
-        fault("/a", 0, 1);
-        fault(" /a", 1, 1);
-        fault("a/", 2, 1);
-        fault("a/ ", 3, 1);
-        fault("a//b", 2, 1);
-        fault("a/ /b", 3, 1);
-        fault("a/-b", 2, 1);
-        good(" a\n", 1);
-        good("a / b", 2);
-        good("a/'b-'c\n/\n d", 4);
+        Checks.verseFault("", 0, 1);
+        Checks.verseFault(" \n", 2, 1);
+        Checks.verseFault("A", 0, 1);
+        Checks.verseFault("a1", 1, 1);
+        Checks.verseFault("a\tb", 1, 1);
+        Checks.verseFault("a" + (char) 228, 1, 1);
+        Checks.verseFault("a_b", 1, 1);
+        Checks.verseFault("'", 1, 1);
+        Checks.verseFault("' a", 1, 1);
+        Checks.verseFault("''a", 1, 1);
+        Checks.verseFault("'-a", 1, 1);
+        Checks.verseFault("'/a", 1, 1);
+        Checks.verseFault("a'b", 1, 1);
+        Checks.verseFault("a'", 1, 1);
+        Checks.verseFault("-a", 0, 1);
+        Checks.verseFault("a-", 2, 1);
+        Checks.verseFault("a- b", 2, 1);
+        Checks.verseFault("a -b", 2, 1);
+        Checks.verseFault("a--b", 2, 1);
+        Checks.verseFault("a-/b", 2, 1);
+        Checks.verseFault("/a", 0, 1);
+        Checks.verseFault(" /a", 1, 1);
+        Checks.verseFault("a/", 2, 1);
+        Checks.verseFault("a/ ", 3, 1);
+        Checks.verseFault("a//b", 2, 1);
+        Checks.verseFault("a/ /b", 3, 1);
+        Checks.verseFault("a/-b", 2, 1);
+        Checks.goodVerse(" a\n", 1);
+        Checks.goodVerse("a / b", 2);
+        Checks.goodVerse("a/'b-'c\n/\n d", 4);
     }
 
     private static void faultsOfCounts() {
-        good("abcdefghij", 1);
-        good("'abcdefghij-klmnopqrst uvwxyzabcd", 3);
-        fault("abcdefghijk", 10, 2);
-        fault("'abcdefghijk", 11, 2);
-        fault("a-abcdefghijk", 12, 2);
-        fault("abcdefghij1", 10, 1);
+        Checks.goodVerse("abcdefghij", 1);
+        Checks.goodVerse("'abcdefghij-klmnopqrst uvwxyzabcd", 3);
+        Checks.verseFault("abcdefghijk", 10, 2);
+        Checks.verseFault("'abcdefghijk", 11, 2);
+        Checks.verseFault("a-abcdefghijk", 12, 2);
+        Checks.verseFault("abcdefghij1", 10, 1);
         String eighty = "a ".repeat(80);
-        good(eighty, 80);
-        fault(eighty + "b", 160, 3);
-        fault(eighty + " \n'", 162, 3);
-        fault(eighty + "B", 160, 1);
-        fault(eighty + "/b", 161, 3);
-        fault(eighty + "/", 161, 1);
-        fault("a" + "-a".repeat(80), 160, 3);
-        fault("a" + "-a".repeat(79) + "-'b", 160, 3);
+        Checks.goodVerse(eighty, 80);
+        Checks.verseFault(eighty + "b", 160, 3);
+        Checks.verseFault(eighty + " \n'", 162, 3);
+        Checks.verseFault(eighty + "B", 160, 1);
+        Checks.verseFault(eighty + "/b", 161, 3);
+        Checks.verseFault(eighty + "/", 161, 1);
+        Checks.verseFault("a" + "-a".repeat(80), 160, 3);
+        Checks.verseFault("a" + "-a".repeat(79) + "-'b", 160, 3);
         String twelve = "a" + "/a".repeat(11);
-        good(twelve, 12);
-        fault(twelve + "/a", 23, 3);
-        fault(twelve + " /a", 24, 3);
-        fault(twelve + "/", 23, 3);
-        fault(twelve + "-/", 24, 1);
+        Checks.goodVerse(twelve, 12);
+        Checks.verseFault(twelve + "/a", 23, 3);
+        Checks.verseFault(twelve + " /a", 24, 3);
+        Checks.verseFault(twelve + "/", 23, 3);
+        Checks.verseFault(twelve + "-/", 24, 1);
     }
 
     private static void faultsOfLength() {
         String to399 = "a" + " ".repeat(398);
-        good(to399 + "b", 2);
-        good(to399 + " ", 1);
-        fault(to399 + "  ", 400, 1);
-        fault(to399 + "bb", 400, 1);
-        fault(to399 + "b?", 400, 1);
-        fault(to399 + "-b", 399, 1);
-        fault(to399 + "'", 400, 1);
-        fault(to399 + "'b", 400, 1);
-        fault(to399 + "/", 400, 1);
-        fault("a" + " ".repeat(388) + "abcdefghij" + "- ", 400, 1);
-        fault("a" + " ".repeat(389) + "abcdefghij" + "k", 400, 1);
-        fault("a" + " ".repeat(388) + "abcdefghij" + "kl", 399, 2);
-        fault("'", 1, 1);
-        fault("?" + to399 + "    ", 0, 1);
+        Checks.goodVerse(to399 + "b", 2);
+        Checks.goodVerse(to399 + " ", 1);
+        Checks.verseFault(to399 + "  ", 400, 1);
+        Checks.verseFault(to399 + "bb", 400, 1);
+        Checks.verseFault(to399 + "b?", 400, 1);
+        Checks.verseFault(to399 + "-b", 399, 1);
+        Checks.verseFault(to399 + "'", 400, 1);
+        Checks.verseFault(to399 + "'b", 400, 1);
+        Checks.verseFault(to399 + "/", 400, 1);
+        Checks.verseFault("a" + " ".repeat(388) + "abcdefghij" + "- ", 400, 1);
+        Checks.verseFault("a" + " ".repeat(389) + "abcdefghij" + "k", 400, 1);
+        Checks.verseFault("a" + " ".repeat(388) + "abcdefghij" + "kl", 399, 2);
+        Checks.verseFault("'", 1, 1);
+        Checks.verseFault("?" + to399 + "    ", 0, 1);
     }
 
     private static void syllables() {
-        SungWords x = good("'ro-ses a/\nre-'al-ly\n'red", 7);
+        SungWords x = Checks.goodVerse("'ro-ses a/\nre-'al-ly\n'red", 7);
         int[][] due = {
             {2, 1, 0, 0}, {3, 0, 0, 0}, {1, 0, 0, 1}, {2, 0, 1, 2}, {2, 1, 1, 2}, {2, 0, 1, 2}, {3, 1, 1, 3},
         };
