@@ -41,21 +41,18 @@ final class Checks {
     /** Names the sentence that the checks below it are for, which must stand in the document just so. */
     static void sentence(String words) {
         if (document == null) {
-            document = oneBlank(readDocument());
+            document = document();
         }
-        same("the document has <" + words + ">", document.contains(oneBlank(words)), true);
+        same("the document has <" + words + ">", document.contains(words), true);
     }
 
-    private static String readDocument() {
+    /** The document with one blank wherever it has any, so that its lines may break anywhere. */
+    static String document() {
         try {
-            return Files.readString(Path.of("../shared/DOC.md"));
+            return Files.readString(Path.of("../shared/DOC.md")).replaceAll("\\s+", " ");
         } catch (IOException e) {
             return "no document: " + e;
         }
-    }
-
-    private static String oneBlank(String text) {
-        return text.replaceAll("\\s+", " ");
     }
 
     static void outOfBounds(String what, Call call) {

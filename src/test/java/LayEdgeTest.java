@@ -4,6 +4,7 @@ public final class LayEdgeTest {
 
     public static void main(String[] args) {
         asManyLines();
+        lineByLine();
         twoOnANoteAtMost();
         oneOnANoteAtLeast();
         pinnedBeginThere();
@@ -11,6 +12,7 @@ public final class LayEdgeTest {
         costOfHolding();
         costInASlur();
         costOfTwo();
+        leastOfAllWays();
         firstOfLikeOnes();
         prices();
         priceTakesLayings();
@@ -62,6 +64,17 @@ public final class LayEdgeTest {
                 Checks.same("where the last lies", x.lies(0, lines - 1), fits ? lines - 1 : -1);
             }
         }
+    }
+
+    private static void lineByLine() {
+        Checks.sentence("LINE by LINE to PHRASE by PHRASE.");
+        SungWords x = Checks.with("m4;c16 d16,e16 f16", "'a/'b 'c", "'a 'b/'c", "'a 'b 'c 'd/'e");
+        String[] due = {"0 2 3", "0 1 2", "0 0 1 1 2"};
+        for (int v = 0; v < 3; v++) {
+            x.lay(v);
+            Checks.same("lies", Checks.lies(x, v, v < 2 ? 3 : 5), due[v]);
+        }
+        noLaying("m4;c16,d16 e16", "'a 'b 'c/'d");
     }
 
     private static void twoOnANoteAtMost() {
@@ -187,6 +200,32 @@ public final class LayEdgeTest {
         laid("m4;c16 d16", "'a 'b 'c 'd", 12, "22");
     }
 
+    private static void leastOfAllWays() {
+        Checks.sentence("COST: for each SYLLABLE");
+        Checks.sentence("The LAYING has the least COST");
+        String[] verses = {"'a b 'c", "a 'b c", "a b 'c", "'a 'b 'c", "a b c"};
+        for (String verse : verses) {
+            SungWords x = Checks.with("m4;c4 (d2 e2) f4", verse);
+            int due = x.lay(0);
+            long ways = x.ways(0, 0, false);
+            long best = x.ways(0, 0, true);
+            int least = Integer.MAX_VALUE;
+            // All three pinned leave one way or none.
+            for (int code = 0; code < 64; code++) {
+                x.pin(0, 0, code / 16);
+                x.pin(0, 1, code / 4 % 4);
+                x.pin(0, 2, code % 4);
+                int cost = x.lay(0);
+                ways -= cost < 0 ? 0 : 1;
+                best -= cost == due ? 1 : 0;
+                least = cost < 0 ? least : Math.min(least, cost);
+            }
+            Checks.same("least of <" + verse + ">", least, due);
+            Checks.same("ways of <" + verse + "> that were not met", ways, 0);
+            Checks.same("best ways of <" + verse + "> that were not met", best, 0);
+        }
+    }
+
     private static void firstOfLikeOnes() {
         Checks.sentence("of like ones the first: at the first NOTE on which other numbers begin it has fewer.");
         String[] due = {"1000", "1001", "1002", "1012", "1022", "1122", "1222", "2222"};
@@ -306,7 +345,7 @@ public final class LayEdgeTest {
     }
 
     private static void layings() {
-        Checks.sentence("NONE, and it is not LAID: no TUNE, no SYLLABLES, not as many LINES as PHRASES, "
+        Checks.sentence("VERSE v is LAID: its COST; NONE, and it is not LAID: no TUNE, no SYLLABLES, not as many LINES as PHRASES, "
                 + "or there is no LAYING.");
         SungWords x = new SungWords();
         Checks.same("no tune, no syllables", x.lay(0), -1);
@@ -335,7 +374,8 @@ public final class LayEdgeTest {
     }
 
     private static void costsOfPhrases() {
-        Checks.sentence("NoSuchElementException: it is not LAID, or there is no such PHRASE.");
+        Checks.sentence("COST of a PHRASE in the LAYING of VERSE v. "
+                + "NoSuchElementException: it is not LAID, or there is no such PHRASE.");
         SungWords x = Checks.with("m4;c16,d16 e16,f16", "'a/'b/'c 'd", "a/b/c d");
         Checks.noSuchElement("ahead of lay", () -> x.cost(0, 0));
         Checks.same("lay", x.lay(0), 9);
@@ -377,7 +417,8 @@ public final class LayEdgeTest {
         Checks.same("without one", x.ways(1, 1, false), 0);
         Checks.same("without one, best", x.ways(1, 1, true), 0);
         Checks.same("the other line", x.ways(1, 0, false), 2);
-        Checks.sentence("(PINS kept; all false)");
+        Checks.sentence("How many ways there are to lay LINE line of VERSE v to its PHRASE (PINS kept; all false), "
+                + "or how many of these have the least COST (best): 0 without one");
         x.pin(0, 1, 0);
         Checks.same("pinned", x.ways(0, 0, false), 1);
         Checks.same("best of the pinned", x.ways(0, 0, true), 1);
@@ -453,7 +494,7 @@ public final class LayEdgeTest {
     }
 
     private static void alikePhrases() {
-        Checks.sentence("on each NOTE as many BEGIN; false also if one is not LAID, or there is no such PHRASE.");
+        Checks.sentence("Whether PHRASE p is LAID alike in two VERSES: on each NOTE as many BEGIN; false also if one is not LAID, or there is no such PHRASE.");
         SungWords x = Checks.with("m4;c16 d16,e16 f16,g16", "'a/'b 'c/'d", "'a/'b/'c 'd", "'a/'b 'c/'d");
         Checks.same("none is laid", x.alike(0, 2, 0), false);
         Checks.same("not with itself", x.alike(0, 0, 0), false);

@@ -52,6 +52,7 @@ public final class SpaceEdgeTest {
     }
 
     private static void behindAnEnd() {
+        Checks.sentence("its END is the place right behind its last letter.");
         Checks.sentence("The next one that BEGINS on another NOTE stands at its END and 1 at least, "
                 + "at its END and 2 if both are of one WORD.");
         for (int letters = 1; letters <= 10; letters++) {
@@ -189,7 +190,7 @@ public final class SpaceEdgeTest {
     }
 
     private static void linesBetweenWords() {
-        Checks.sentence("a _ at each place from its END and 1");
+        Checks.sentence("Where none begins the latest one is HELD.");
         Checks.same("one place", Checks.row(spread(3, "ab c"), 0), "ab _  c");
         Checks.same("two places", Checks.row(spread(3, "a c"), 0), "a __  c");
         Checks.same("no place", Checks.row(spread(3, "abc d"), 0), "abc   d");
@@ -221,6 +222,7 @@ public final class SpaceEdgeTest {
     }
 
     private static void rowsOfVerses() {
+        Checks.sentence("The ROW of a VERSE: its SYLLABLES");
         Checks.sentence("OUT is the ROW of VERSE v: how many bytes; NONE (OUT stays): it is not LAID.");
         SungWords x = laid(tune(2), "'a 'b", "'cd 'ef", "'ghi 'jkl", "'m");
         String[] due = {"a   b", "cd  ef", "ghi jkl", "m ___"};

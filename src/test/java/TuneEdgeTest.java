@@ -226,7 +226,7 @@ public final class TuneEdgeTest {
     }
 
     private static void slurs() {
-        Checks.sentence("( NOTE NOTE { NOTE } ): a SLUR.");
+        Checks.sentence("ITEM: NOTE | REST | ( NOTE NOTE { NOTE } ): a SLUR.");
         fault("m4;()", 4, 1);
         fault("m4;(c4)", 6, 1);
         good("m4;(c4 d4)", 2);
@@ -481,8 +481,8 @@ public final class TuneEdgeTest {
     private static void whatANoteTells() {
         Checks.sentence("NoSuchElementException: there is none such, or another what.");
         SungWords x = Checks.goodTune("m4;a1 r1 (g2 c3),r1 d4", 4);
-        Checks.sentence("4 its place in its SLUR (from 0 on; NONE: in none), 5 its PHRASE, "
-                + "6 1 if it is right behind a REST.");
+        Checks.sentence("Of NOTE k: 0 its letter (0 to 6: a to g), 1 START, 2 LENGTH, 3 STRONG, "
+                + "4 its place in its SLUR (from 0 on; NONE: in none), 5 its PHRASE, 6 1 if it is right behind a REST.");
         int[][] due = {{0, 0, 1, 3, -1, 0, 0}, {6, 2, 2, 0, 0, 0, 1}, {2, 4, 3, 1, 1, 0, 0}, {3, 8, 4, 2, -1, 1, 1}};
         for (int k = 0; k < 4; k++) {
             for (int what = 0; what <= 6; what++) {
@@ -505,7 +505,7 @@ public final class TuneEdgeTest {
     }
 
     private static void transposing() {
-        Checks.sentence("All NOTES' letters go up by so many (c by 2 is e; g by 1 is a; any whole number)");
+        Checks.sentence("All NOTES' letters go up by so many (c by 2 is e; g by 1 is a; any whole number): how many NOTES.");
         // The highest number is 1 above a multiple of 7, the lowest one 2 below one.
         int[] bys = {-8, -7, -6, -1, 0, 1, 2, 6, 7, 8, Integer.MAX_VALUE, Integer.MIN_VALUE, Integer.MAX_VALUE - 1};
         int[] ups = {6, 0, 1, 6, 0, 1, 2, 6, 0, 1, 1, 5, 0};

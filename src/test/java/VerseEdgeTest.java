@@ -355,7 +355,9 @@ public final class VerseEdgeTest {
     }
 
     private static void whatASyllableTells() {
-        Checks.sentence("4 the NOTE to which it is PINNED (NONE). NoSuchElementException: there is none such, or another what.");
+        Checks.sentence("Of SYLLABLE k of VERSE v: 0 how many letters, 1 1 if STRESSED, 2 its LINE, "
+                + "3 its WORD (from 0 on, of the VERSE), "
+                + "4 the NOTE to which it is PINNED (NONE). NoSuchElementException: there is none such, or another what.");
         SungWords x = Checks.with("m4;c4 d4", "'ab-c de/f", "g");
         x.pin(0, 1, 0);
         x.pin(0, 2, 1);
